@@ -118,6 +118,7 @@ public final class BufferTest {
         }
         Check.due("48: no elements", x.allocate(5, 0, 0), 1);
         Check.due("48: no elements", x.load(5, 0), NO_VALUE);
+        x.store(3, 0, 8);
         x.store(3, 5, 9);
         Check.due("48: a wrong type", x.allocate(3, 5, 1), -2);
         Check.due("48: a wrong type", x.allocate(3, -2, 1), -2);
@@ -129,7 +130,10 @@ public final class BufferTest {
         Check.due("48: the buffer comes first", x.allocate(-1, -1, 0), -1);
         Check.due("48: a wrong call leaves the buffer", x.load(3, 5), 9);
         Check.due("48: anew", x.allocate(3, 3, 10), 1);
-        Check.due("48: zeros", x.load(3, 5), 0);
+        for (int i = 0; i < 10; i++) {
+            Check.due("48: zeros", x.load(3, i), 0);
+        }
+        Check.due("48: the new length", x.load(3, 10), NO_VALUE);
         Check.due("48: null, any length", x.allocate(3, -1, -7), 1);
         Check.due("48: null", x.load(3, 0), NO_VALUE);
         Check.due("48: null", x.store(3, 0, 1), -11);

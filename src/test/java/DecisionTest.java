@@ -4,6 +4,7 @@ public final class DecisionTest {
         counterModels();
         valid();
         possible();
+        manyAtoms();
         limits();
         entails();
         wrongArguments();
@@ -103,6 +104,24 @@ public final class DecisionTest {
         decided("<?p*;a>1&[a]0", 0, 0);
         decided("[?[a]p]q&!q&[a]p", 0, 0);
         decided("[?[a]p]q&!q&<a>p", 0, 1);
+    }
+
+    /** Eight base members: the sets of atoms take more than one word. */
+    private static void manyAtoms() {
+        decided("[a*]p&[b*]q&r&s-[a*][a*]p", 1, 1);
+        decided("p&q&r&s&[a*]p&[b]q&<a;a>!p", 0, 0);
+        decided("p&q&r&s&[a*]p&[b*]q&[c*]r&<b>1", 0, 1);
+        decided("p|q|r|s|[a*]p|[b*]q|[c*]r|1", 1, 1);
+        decided("<a*>p&<b*>q&<c*>r&[a]s&!p&!q&!r", 0, 1);
+        decided("<a*>p&[a*]!p&(q|r|s|[b]q|[c]r)", 0, 0);
+        decided("q&r&s&[b]q&p&[a*](p-[a]p)-[a*]p", 1, 1);
+        decided("q&r&s&[b]q&p&[a*](p-[a]p)-[a*]q", 0, 1);
+        decided("[(a;b;c)*]p-[a;b;c]p&p", 1, 1);
+        decided("[(a;b;c)*]p&<(a;b;c)*>!p", 0, 0);
+        decided("q&[(a;b;c)*]p&<(a;b;c)*>q", 0, 1);
+        // the worlds that a leads to would have to break an induction
+        decided("![a][b]q&[a](p&[c*](p-[c]p)&![c*]p)", 0, 0);
+        decided("![a][b]q&[a](p&[c*](p-[c]p)&[c*]p)", 0, 1);
     }
 
     private static void limits() {

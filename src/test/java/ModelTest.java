@@ -154,9 +154,21 @@ public final class ModelTest {
         x.setTransition(0, 4, 5, false);
         x.setTransition(1, 4, 5, true);
         Check.due("8: another program matters", x.bisimulationClasses(), 6);
+        for (int letter = 0; letter < 4; letter++) {
+            x.setWorlds(3);
+            x.setLetter(1, letter, true);
+            Check.due("8: letter " + letter + " matters", x.bisimulationClasses(), 2);
+            Check.due("9: 2 is like 0", x.bisimulationClass(2), 0);
+        }
+        for (int program = 0; program < 3; program++) {
+            x.setWorlds(6);
+            x.setTransition(program, 1, 5, true);
+            Check.due("8: program " + program + " matters", x.bisimulationClasses(), 2);
+            Check.due("9: 1 is alone", x.bisimulationClass(1), 1);
+        }
         Check.due("9: wrong", x.bisimulationClass(6), -1);
         Check.due("9: wrong", x.bisimulationClass(-1), -1);
         Check.due("9: wrong", x.bisimulationClass(Integer.MIN_VALUE), -1);
-        Check.due("8: queries leave the model", x.count(1), 6);
+        Check.due("8: queries leave the model", x.count(1), 1);
     }
 }

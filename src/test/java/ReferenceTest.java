@@ -278,7 +278,7 @@ public final class ReferenceTest {
         if (Reference.bases(closure) > 8) {
             Check.due(name + "isValid " + f, x.isValid(f), -4);
             Check.due(name + "isSatisfiable " + f, x.isSatisfiable(f), -4);
-        } else if (Reference.bases(closure) <= 6 || random.nextInt(10) == 0) {
+        } else if (Reference.bases(closure) <= 6 || random.nextInt(3) == 0) {
             Reference.Types types = new Reference.Types(formulas[f]);
             Check.isTrue(name + "a model " + f, types.isModel());
             boolean valid = types.everywhere(formulas[f]);
@@ -347,7 +347,7 @@ public final class ReferenceTest {
             int bases = Reference.bases(Reference.closure(whole));
             if (bases > 8) {
                 Check.due(name + "entails", x.entails(f, g), -4);
-            } else if (bases <= 6) {
+            } else if (bases <= 6 || random.nextInt(3) == 0) {
                 Reference.Types types = new Reference.Types(whole);
                 Check.due(name + "entails", x.entails(f, g), types.everywhere(whole) ? 1 : 0);
             }
