@@ -48,7 +48,7 @@ public final class DynamicLogicProver {
     private final Closure closure = new Closure(pool);
     private final Partition partition = new Partition();
     private final Runs runs = new Runs(pool, closure, truth, model);
-    private final Decision decision = new Decision(pool, closure);
+    private final Decision decision = new Decision(closure);
     private int textUsed;
     private boolean saved;
 
@@ -461,7 +461,7 @@ public final class DynamicLogicProver {
             return INVALID_INDEX;
         }
         int first = only(f);
-        int node = pool.implies(first, formulas.fetch(g, pool));
+        int node = pool.pair('-', first, formulas.fetch(g, pool));
         return decide(node) ? bit(decision.everywhere(node)) : LIMIT_REACHED;
     }
 
@@ -643,6 +643,11 @@ public final class DynamicLogicProver {
         return program >= 0 && program < PROGRAMS;
     }
 
+    /** Whether formulas of a form (see Closure) are letters or boxes with an atomic program. */
+    private static boolean isBaseForm(int form) {
+        return form >= 'a' && form <= 'c' || form >= 'p' && form <= 's';
+    }
+
     private static int bit(boolean value) {
         return value ? 1 : 0;
     }
@@ -757,30 +762,24 @@ public final class DynamicLogicProver {
             return left == NONE || right == NONE ? NONE : find(kind, left, right);
         }
 
-        int implies(int left, int right) {
-            return pair('-', left, right);
-        }
-
         int negate(int node) {
-            return implies(node, leaf('0'));
+            return pair('-', node, leaf('0'));
         }
 
         int truth() {
-            return negate(leaf('0'));
+            return pair('-', leaf('0'), leaf('0'));
         }
 
         int both(int left, int right) {
-            return negate(implies(left, negate(right)));
+            int refused = pair('-', right, leaf('0'));
+            return pair('-', pair('-', left, refused), leaf('0'));
         }
 
         int either(int left, int right) {
-            return implies(negate(left), right);
+            return pair('-', pair('-', left, leaf('0')), right);
         }
 
-        int box(int program, int body) {
-            return pair('[', program, body);
-        }
-
+        /** The node with these parts, a new one if there is none yet; NONE if the pool is full. */
         private int find(int kind, int left, int right) {
             int bucket = (kind * 31 + left * 7 + right * 13) & (BUCKETS - 1);
             int node = at(heads, bucket);
@@ -790,11 +789,10 @@ public final class DynamicLogicProver {
                 }
                 node = at(chains, node);
             }
-            return used >= NODES ? NONE : append(kind, left, right, bucket);
-        }
-
-        private int append(int kind, int left, int right, int bucket) {
-            int node = used;
+            if (used >= NODES) {
+                return NONE;
+            }
+            node = used;
             used++;
             put(kinds, node, kind);
             put(lefts, node, left);
@@ -802,10 +800,10 @@ public final class DynamicLogicProver {
             put(chains, node, at(heads, bucket));
             put(heads, bucket, node);
             // a missing part is NONE, and at() answers 0 for it
-            put(sizes, node, 1 + size(left) + size(right));
-            int inner = Math.max(height(left), height(right));
+            put(sizes, node, 1 + at(sizes, left) + at(sizes, right));
+            int inner = Math.max(at(heights, left), at(heights, right));
             put(heights, node, kind == '*' ? inner + 1 : inner);
-            put(lengths, node, signs(kind) + length(left) + length(right));
+            put(lengths, node, signs(kind) + at(lengths, left) + at(lengths, right));
             return node;
         }
 
@@ -960,7 +958,7 @@ public final class DynamicLogicProver {
             int whole = at(operands, waiting);
             for (int i = 0; i < TEXT_CAPACITY && waiting > bottom; i++) {
                 waiting--;
-                whole = pool.implies(at(operands, waiting), whole);
+                whole = pool.pair('-', at(operands, waiting), whole);
             }
             return whole;
         }
@@ -1017,9 +1015,9 @@ public final class DynamicLogicProver {
             int program = closed(choice(), sign == '[' ? ']' : '>');
             int body = unary();
             if (sign == '[') {
-                return pool.box(program, body);
+                return pool.pair('[', program, body);
             }
-            return pool.negate(pool.box(program, pool.negate(body)));
+            return pool.negate(pool.pair('[', program, pool.negate(body)));
         }
 
         private int closed(int node, int sign) {
@@ -1095,7 +1093,7 @@ public final class DynamicLogicProver {
             for (int i = depth - 1; i >= 0; i--) {
                 int whole = at(path, i);
                 if (goesLeft(whole)) {
-                    fresh = pool.implies(fresh, pool.right(whole));
+                    fresh = pool.pair('-', fresh, pool.right(whole));
                 } else {
                     fresh = pool.pair(pool.kind(whole), pool.left(whole), fresh);
                 }
@@ -1129,13 +1127,13 @@ public final class DynamicLogicProver {
             int second = pool.right(program);
             switch (pool.kind(program)) {
                 case ';':
-                    return pool.box(first, pool.box(second, body));
+                    return pool.pair('[', first, pool.pair('[', second, body));
                 case '+':
-                    return pool.both(pool.box(first, body), pool.box(second, body));
+                    return pool.both(pool.pair('[', first, body), pool.pair('[', second, body));
                 case '*':
-                    return pool.both(body, pool.box(first, box));
+                    return pool.both(body, pool.pair('[', first, box));
                 default:
-                    return pool.implies(first, body);
+                    return pool.pair('-', first, body);
             }
         }
 
@@ -1352,7 +1350,7 @@ public final class DynamicLogicProver {
             int reached = 0;
             for (int world = 0; world < worlds; world++) {
                 if ((from >> world & 1) == 1) {
-                    reached |= row(program, world);
+                    reached |= at(rows, program * MAX_WORLDS + world);
                 }
             }
             return reached;
@@ -1620,14 +1618,10 @@ public final class DynamicLogicProver {
             return at(seconds, node);
         }
 
-        boolean isBase(int node) {
-            return pool.isLetter(node) || pool.isAtomicBox(node);
-        }
-
         int bases() {
             int total = 0;
             for (int i = 0; i < used; i++) {
-                total += bit(isBase(member(i)));
+                total += bit(isBaseForm(form(member(i))));
             }
             return total;
         }
@@ -1651,50 +1645,44 @@ public final class DynamicLogicProver {
         }
 
         private void expand(int node, boolean withTests) {
-            int first = NONE;
+            int left = pool.left(node);
+            int right = pool.right(node);
+            int first = right;
             int second = NONE;
-            int kind = pool.kind(node);
-            int program = kind == '[' ? pool.left(node) : NONE;
-            if (kind == '-') {
-                first = pool.left(node);
-                second = pool.right(node);
-            } else if (program != NONE) {
-                first = firstOf(node, program);
-                second = secondOf(node, program);
+            int form = form(node);
+            switch (form) {
+                case '-':
+                    first = left;
+                    second = right;
+                    break;
+                case ';':
+                    first = pool.pair('[', pool.left(left), pool.pair('[', pool.right(left), right));
+                    break;
+                case '+':
+                    first = pool.pair('[', pool.left(left), right);
+                    second = pool.pair('[', pool.right(left), right);
+                    break;
+                case '*':
+                    second = pool.pair('[', pool.left(left), node);
+                    break;
+                case '?':
+                    first = pool.left(left);
+                    second = right;
+                    break;
+                default:
+                    break;
             }
             put(firsts, node, first);
             put(seconds, node, second);
-            if (withTests || program == NONE || pool.kind(program) != '?') {
+            if (withTests || form != '?') {
                 admit(first);
             }
             admit(second);
         }
 
-        private int firstOf(int box, int program) {
-            int body = pool.right(box);
-            switch (pool.kind(program)) {
-                case ';':
-                    return pool.box(pool.left(program), pool.box(pool.right(program), body));
-                case '+':
-                    return pool.box(pool.left(program), body);
-                case '?':
-                    return pool.left(program);
-                default:
-                    return body;
-            }
-        }
-
-        private int secondOf(int box, int program) {
-            switch (pool.kind(program)) {
-                case '+':
-                    return pool.box(pool.right(program), pool.right(box));
-                case '*':
-                    return pool.box(pool.left(program), box);
-                case '?':
-                    return pool.right(box);
-                default:
-                    return NONE;
-            }
+        /** The kind of a formula, or that of its program if it is a box. */
+        int form(int node) {
+            return pool.kind(node) == '[' ? pool.kind(pool.left(node)) : pool.kind(node);
         }
 
         /** Numbers the members in the order of formulas. */
@@ -1747,7 +1735,7 @@ public final class DynamicLogicProver {
         }
 
         void prepare(int program) {
-            root = pool.box(program, pool.leaf(END));
+            root = pool.pair('[', program, pool.leaf(END));
             closure.grow(root, false);
             truth.evaluate(model);
             numberStates();
@@ -1994,7 +1982,7 @@ public final class DynamicLogicProver {
     /**
      * Decides validity by elimination. An atom is a choice of truth for the base members, which fixes the
      * truth of all members; atoms whose false boxes find no run to a refutation are removed until none is
-     * left to remove. Sets of atoms are rows of four words.
+     * left to remove. Sets of atoms are rows of four words. Members are given by their places.
      */
     private static final class Decision {
         private static final int WORDS = 4;
@@ -2002,40 +1990,51 @@ public final class DynamicLogicProver {
         private static final int OPEN = 0;
         private static final int GROUPED = 1;
         private static final int KNOWN = 2;
-        private final Pool pool;
         private final Closure closure;
+        private final int[] forms = new int[MAX_MEMBERS];
+        private final int[] firsts = new int[MAX_MEMBERS];
+        private final int[] seconds = new int[MAX_MEMBERS];
+        private final int[] states = new int[MAX_MEMBERS];
+        private final int[] group = new int[MAX_MEMBERS];
         private final long[] values = new long[MAX_MEMBERS * WORDS];
         private final long[] refuted = new long[MAX_MEMBERS * WORDS];
         private final long[] onward = new long[PROGRAMS * ATOMS * WORDS];
         private final long[] alive = new long[WORDS];
-        private final int[] states = new int[MAX_MEMBERS];
-        private final int[] group = new int[MAX_MEMBERS];
+        private int members;
         private int atoms;
         private int words;
 
-        Decision(Pool pool, Closure closure) {
-            this.pool = pool;
+        Decision(Closure closure) {
             this.closure = closure;
         }
 
-        private long value(int node, int word) {
-            return wideAt(values, closure.placeOf(node) * WORDS + word);
+        private long value(int place, int word) {
+            return wideAt(values, place * WORDS + word);
         }
 
-        private long refutation(int node, int word) {
-            return wideAt(refuted, closure.placeOf(node) * WORDS + word);
+        private long refutation(int place, int word) {
+            return wideAt(refuted, place * WORDS + word);
+        }
+
+        private boolean isStep(int place) {
+            return at(forms, place) >= 'a' && at(forms, place) <= 'c';
+        }
+
+        private boolean isComplexBox(int place) {
+            int form = at(forms, place);
+            return form == ';' || form == '+' || form == '*' || form == '?';
         }
 
         /** Works on the closure that has been grown and sorted, with at most MAX_BASE base members. */
         void settle() {
+            members = closure.size();
             atoms = 1 << Math.min(closure.bases(), MAX_BASE);
             words = (atoms + 63) / 64;
             for (int word = 0; word < words; word++) {
                 putWide(alive, word, atoms >= 64 ? -1L : (1L << atoms) - 1L);
             }
-            Arrays.fill(states, OPEN);
-            fixBases();
-            for (int i = 0; i < closure.size(); i++) {
+            takeMembers();
+            for (int i = 0; i < members; i++) {
                 if (at(states, i) == OPEN) {
                     fix(i);
                 }
@@ -2049,10 +2048,15 @@ public final class DynamicLogicProver {
         }
 
         /** The base member with number i is true in the atoms that have bit i. */
-        private void fixBases() {
+        private void takeMembers() {
             int number = 0;
-            for (int i = 0; i < closure.size(); i++) {
-                if (closure.isBase(closure.member(i))) {
+            for (int i = 0; i < members; i++) {
+                int node = closure.member(i);
+                put(forms, i, closure.form(node));
+                put(firsts, i, closure.placeOf(closure.first(node)));
+                put(seconds, i, closure.placeOf(closure.second(node)));
+                put(states, i, OPEN);
+                if (isBaseForm(at(forms, i))) {
                     for (int word = 0; word < words; word++) {
                         putWide(values, i * WORDS + word, pattern(number, word));
                     }
@@ -2072,7 +2076,7 @@ public final class DynamicLogicProver {
 
         /** Members come by size, so all that a formula is made of is known before it. */
         private void fix(int place) {
-            if (!pool.isComplexBox(closure.member(place))) {
+            if (!isComplexBox(place)) {
                 combine(place);
                 put(states, place, KNOWN);
                 return;
@@ -2094,24 +2098,21 @@ public final class DynamicLogicProver {
          * Collects the boxes on which a box depends and which are not known yet. They begin as true
          * everywhere: a box is false only for a reason that is reached in finitely many parts.
          */
-        private int gather(int place) {
-            put(group, 0, place);
-            put(states, place, GROUPED);
-            int size = 1;
+        private int gather(int start) {
+            int size = enlist(start, 0);
             for (int i = 0; i < size && i < MAX_MEMBERS; i++) {
-                int node = closure.member(at(group, i));
+                int place = at(group, i);
                 for (int word = 0; word < words; word++) {
-                    putWide(values, at(group, i) * WORDS + word, -1L);
+                    putWide(values, place * WORDS + word, -1L);
                 }
-                size = enlist(closure.first(node), size);
-                size = enlist(closure.second(node), size);
+                size = enlist(at(firsts, place), size);
+                size = enlist(at(seconds, place), size);
             }
             return size;
         }
 
-        private int enlist(int node, int size) {
-            int place = closure.placeOf(node);
-            if (place == NONE || !pool.isComplexBox(node) || at(states, place) != OPEN) {
+        private int enlist(int place, int size) {
+            if (place == NONE || !isComplexBox(place) || at(states, place) != OPEN) {
                 return size;
             }
             put(states, place, GROUPED);
@@ -2121,82 +2122,74 @@ public final class DynamicLogicProver {
 
         /** Computes a member from those that it brings in; answers whether its value changes. */
         private boolean combine(int place) {
-            int node = closure.member(place);
             boolean changed = false;
             for (int word = 0; word < words; word++) {
-                long fresh = combined(node, word);
-                changed = changed || fresh != wideAt(values, place * WORDS + word);
+                long fresh = combined(place, word);
+                changed = changed || fresh != value(place, word);
                 putWide(values, place * WORDS + word, fresh);
             }
             return changed;
         }
 
-        private long combined(int node, int word) {
-            if (pool.kind(node) == '0') {
-                return 0L;
-            }
-            long first = value(closure.first(node), word);
-            int kind = pool.kind(node) == '-' ? '-' : pool.kind(pool.left(node));
-            switch (kind) {
+        private long combined(int place, int word) {
+            long first = value(at(firsts, place), word);
+            long second = value(at(seconds, place), word);
+            switch (at(forms, place)) {
                 case '-':
                 case '?':
-                    return ~first | value(closure.second(node), word);
+                    return ~first | second;
                 case ';':
                     return first;
+                case '+':
+                case '*':
+                    return first & second;
                 default:
-                    return first & value(closure.second(node), word);
+                    return 0L;
             }
         }
 
         /** The atoms that may follow an atom make true all that its true boxes ask for. */
         private void linkAtoms() {
             Arrays.fill(onward, -1L);
-            for (int i = 0; i < closure.size(); i++) {
-                int node = closure.member(i);
-                if (pool.isAtomicBox(node)) {
-                    int program = pool.kind(pool.left(node)) - 'a';
-                    for (int atom = 0; atom < atoms; atom++) {
-                        if ((value(node, atom / 64) >> (atom & 63) & 1L) == 1L) {
-                            narrow(program, atom, closure.first(node));
-                        }
+            for (int i = 0; i < members; i++) {
+                for (int atom = 0; isStep(i) && atom < atoms; atom++) {
+                    if ((value(i, atom / 64) >> (atom & 63) & 1L) == 1L) {
+                        narrow((at(forms, i) - 'a') * ATOMS + atom, at(firsts, i));
                     }
                 }
             }
         }
 
-        private void narrow(int program, int atom, int body) {
+        private void narrow(int row, int body) {
             for (int word = 0; word < words; word++) {
-                int place = (program * ATOMS + atom) * WORDS + word;
+                int place = row * WORDS + word;
                 putWide(onward, place, wideAt(onward, place) & value(body, word));
             }
         }
 
         /** Finds for every box the atoms from which a run through atoms leads to a refutation of it. */
         private void refute() {
-            for (int i = 0; i < closure.size(); i++) {
-                int node = closure.member(i);
+            for (int i = 0; i < members; i++) {
+                boolean isBox = isStep(i) || isComplexBox(i);
                 for (int word = 0; word < words; word++) {
-                    long none = pool.kind(node) == '[' ? 0L : wideAt(alive, word) & ~value(node, word);
-                    putWide(refuted, i * WORDS + word, none);
+                    long first = isBox ? 0L : wideAt(alive, word) & ~value(i, word);
+                    putWide(refuted, i * WORDS + word, first);
                 }
             }
             boolean changed = true;
             for (int round = 0; round <= MAX_MEMBERS * ATOMS && changed; round++) {
                 changed = false;
-                for (int i = 0; i < closure.size(); i++) {
-                    if (pool.kind(closure.member(i)) == '[') {
-                        changed = extend(i) || changed;
-                    }
+                for (int i = 0; i < members; i++) {
+                    changed = extend(i) || changed;
                 }
             }
         }
 
         private boolean extend(int place) {
-            int node = closure.member(place);
             boolean changed = false;
             for (int word = 0; word < words; word++) {
-                long now = wideAt(refuted, place * WORDS + word);
-                long more = now | refutedBy(node, word, now);
+                long now = refutation(place, word);
+                long more = now | refutedBy(place, word, now);
                 if (more != now) {
                     putWide(refuted, place * WORDS + word, more);
                     changed = true;
@@ -2205,10 +2198,10 @@ public final class DynamicLogicProver {
             return changed;
         }
 
-        private long refutedBy(int box, int word, long now) {
-            int first = closure.first(box);
-            int second = closure.second(box);
-            switch (pool.kind(pool.left(box))) {
+        private long refutedBy(int place, int word, long now) {
+            int first = at(firsts, place);
+            int second = at(seconds, place);
+            switch (at(forms, place)) {
                 case ';':
                     return refutation(first, word);
                 case '+':
@@ -2216,20 +2209,23 @@ public final class DynamicLogicProver {
                     return refutation(first, word) | refutation(second, word);
                 case '?':
                     return value(first, word) & refutation(second, word);
+                case 'a':
+                case 'b':
+                case 'c':
+                    return leading(place, word, wideAt(alive, word) & ~now);
                 default:
-                    return leading(box, word, wideAt(alive, word) & ~now);
+                    return 0L;
             }
         }
 
         /** Those of the given atoms of a word from which a step leads to a refutation of the body. */
-        private long leading(int box, int word, long asked) {
-            int program = pool.kind(pool.left(box)) - 'a';
-            int body = closure.placeOf(closure.first(box));
+        private long leading(int place, int word, long asked) {
+            int row = (at(forms, place) - 'a') * ATOMS + word * 64;
+            int body = at(firsts, place) * WORDS;
             long found = 0L;
-            for (int i = 0; i < 64 && word * 64 + i < atoms; i++) {
-                int start = (program * ATOMS + word * 64 + i) * WORDS;
+            for (int i = 0; i < 64; i++) {
                 for (int w = 0; (asked >> i & 1L) == 1L && w < words; w++) {
-                    if ((wideAt(onward, start + w) & wideAt(refuted, body * WORDS + w)) != 0L) {
+                    if ((wideAt(onward, (row + i) * WORDS + w) & wideAt(refuted, body + w)) != 0L) {
                         found |= 1L << i;
                         break;
                     }
@@ -2241,11 +2237,11 @@ public final class DynamicLogicProver {
         /** Removes the atoms with a false box that is not refuted; answers whether there were any. */
         private boolean remove() {
             boolean changed = false;
-            for (int i = 0; i < closure.size(); i++) {
-                int node = closure.member(i);
-                for (int word = 0; word < words && pool.kind(node) == '['; word++) {
+            for (int i = 0; i < members; i++) {
+                boolean isBox = isStep(i) || isComplexBox(i);
+                for (int word = 0; word < words && isBox; word++) {
                     long now = wideAt(alive, word);
-                    long left = now & (value(node, word) | refutation(node, word));
+                    long left = now & (value(i, word) | refutation(i, word));
                     changed = changed || left != now;
                     putWide(alive, word, left);
                 }
@@ -2255,7 +2251,7 @@ public final class DynamicLogicProver {
 
         boolean everywhere(int node) {
             for (int word = 0; word < words; word++) {
-                if ((wideAt(alive, word) & ~value(node, word)) != 0L) {
+                if ((wideAt(alive, word) & ~value(closure.placeOf(node), word)) != 0L) {
                     return false;
                 }
             }
@@ -2264,7 +2260,7 @@ public final class DynamicLogicProver {
 
         boolean somewhere(int node) {
             for (int word = 0; word < words; word++) {
-                if ((wideAt(alive, word) & value(node, word)) != 0L) {
+                if ((wideAt(alive, word) & value(closure.placeOf(node), word)) != 0L) {
                     return true;
                 }
             }
