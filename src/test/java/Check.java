@@ -2,16 +2,26 @@
 final class Check {
     private static int wrong = 0;
     private static int looked = 0;
+    private static String test = "";
 
     private Check() { }
+
+    /** The name that comes before the messages from now on, until another one is given. */
+    static void begin(String name) {
+        test = name.isEmpty() ? "" : name + ": ";
+    }
 
     static void due(String what, long got, long want) {
         looked++;
         if (got != want) {
-            wrong++;
-            if (wrong <= 50) {
-                System.out.println(what + " answered " + got + ", due is " + want);
-            }
+            report(what + " answered " + got + ", due is " + want);
+        }
+    }
+
+    private static void report(String message) {
+        wrong++;
+        if (wrong <= 50) {
+            System.out.println(test + message);
         }
     }
 
@@ -26,6 +36,10 @@ final class Check {
 
     static int wrong() {
         return wrong;
+    }
+
+    static int looked() {
+        return looked;
     }
 
     /** Appends a text; answers what the last call answered. */
@@ -46,7 +60,8 @@ final class Check {
     /** The canonical text of a stored formula. */
     static String text(DynamicLogicProver x, int f) {
         StringBuilder all = new StringBuilder();
-        for (int i = 0; i < x.textLength(f); i++) {
+        int length = x.textLength(f);
+        for (int i = 0; i < length; i++) {
             all.append((char) x.textChar(f, i));
         }
         return all.toString();
@@ -55,12 +70,7 @@ final class Check {
     static void dueText(String what, String got, String want) {
         looked++;
         if (!got.equals(want)) {
-            wrong++;
-            System.out.println(what + " answered " + got + ", due is " + want);
+            report(what + " answered " + got + ", due is " + want);
         }
-    }
-
-    static String repeat(String text, int times) {
-        return text.repeat(times);
     }
 }
