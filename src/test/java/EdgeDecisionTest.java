@@ -144,6 +144,27 @@ public final class EdgeDecisionTest {
         decided("[a;a;a;a;a;a;a;a]1", 8, 1, 1);
     }
 
+    /** The decision for a, b and c alike, with few base members and with eight. */
+    static void promise42EveryProgram() {
+        for (char c = 'a'; c <= 'c'; c++) {
+            String[] texts = {"[x]p&<x>!p", "[x*]p&<x;x>!p", "<x>p&<x>!p", "p&[x*](p-[x]p)&<x*>!p", "[x](p-q)&[x]p&<x>!q"};
+            int[] possible = {0, 0, 1, 0, 0};
+            for (int i = 0; i < texts.length; i++) {
+                String text = texts[i].replace('x', c);
+                DynamicLogicProver x = new DynamicLogicProver();
+                int f = Check.parse(x, text);
+                Check.due(text, x.isSatisfiable(f), possible[i]);
+                Check.due("!(" + text + ")", x.isValid(Check.parse(x, "!(" + text + ")")), 1 - possible[i]);
+                int g = Check.parse(x, "(" + text + ")&(p-q-r-s-1)");
+                Check.due("with four letters", x.isSatisfiable(g), possible[i]);
+            }
+            String next = String.valueOf(c == 'c' ? 'a' : (char) (c + 1));
+            String apart = "[" + c + "]p&<" + next + ">!p";
+            DynamicLogicProver x = new DynamicLogicProver();
+            Check.due(apart, x.isSatisfiable(Check.parse(x, apart)), 1);
+        }
+    }
+
     static void promise41ALimitLeavesTheState() {
         DynamicLogicProver x = Fixture.FULL.make();
         x.dropFormula();

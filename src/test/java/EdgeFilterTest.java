@@ -65,6 +65,24 @@ public final class EdgeFilterTest {
                 (x, i) -> x.filterSuccessors(i[0], i[1], i[2]), i -> i[0] == 12 || i[2] == 2 ? -1 : 2);
     }
 
+    static void promise34TheFirstAndTheLastWorldOfAClass() {
+        for (int program = 0; program < 3; program++) {
+            for (int end = 0; end <= 5; end += 5) {
+                DynamicLogicProver x = new DynamicLogicProver();
+                x.setWorlds(6);
+                x.setLetter(2, 0, true);
+                int f = Check.parse(x, "p");
+                x.setTransition(program, 2, end, true);
+                Check.due("into a world of class 0", x.filterSuccessors(f, program, 1), 1);
+                x.setTransition(program, end, 2, true);
+                Check.due("out of a world of class 0", x.filterSuccessors(f, program, 0), 2);
+                x.setTransition(program, end, end, true);
+                Check.due("within class 0", x.filterSuccessors(f, program, 0), 3);
+                Check.due("the next program", x.filterSuccessors(f, (program + 1) % 3, 0), 0);
+            }
+        }
+    }
+
     static void promise35OnlyClassesOfTheFirstFormula() {
         // where formulas 0 to 3 are true in the filtered models: without q, with p and two worlds, without p, without q
         int[][] due = {{8, 10, 13, 9}, {0, 2, 1, 3}, {0, 0, 13, 0}, {8, 10, 13, 9}};

@@ -310,14 +310,16 @@ public final class EdgeModelTest {
         DynamicLogicProver x = new DynamicLogicProver();
         x.setWorlds(6);
         Check.due("six worlds that are alike", x.bisimulationClasses(), 1);
-        x.setWorlds(6);
-        for (int i = 0; i < 5; i++) {
-            x.setTransition(2, i + 1, i, true);
+        for (int program = 0; program < 3; program++) {
+            x.setWorlds(6);
+            for (int i = 0; i < 5; i++) {
+                x.setTransition(program, i + 1, i, true);
+            }
+            // the worlds differ only in how far the end is, so every round tells one more
+            Check.due("six worlds that differ", x.bisimulationClasses(), 6);
+            x.setTransition(program, 0, 5, true);
+            Check.due("a ring", x.bisimulationClasses(), 1);
         }
-        // the worlds differ only in how far the end is, so every round tells one more
-        Check.due("six worlds that differ", x.bisimulationClasses(), 6);
-        x.setTransition(2, 0, 5, true);
-        Check.due("a ring", x.bisimulationClasses(), 1);
     }
 
     static void promise09TheFirstAndTheLastWorld() {

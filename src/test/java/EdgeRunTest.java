@@ -157,6 +157,23 @@ public final class EdgeRunTest {
         Check.due("no fourth one", x.runStep(g, 0, 5, 3, 1), -5);
     }
 
+    static void promise23TheFirstProgramAndTheFirstWorld() {
+        DynamicLogicProver x = new DynamicLogicProver();
+        x.setWorlds(6);
+        for (int to = 0; to < 6; to++) {
+            x.setTransition(0, 5, to, true);
+            x.setTransition(1, 5, to, true);
+            x.setTransition(2, to, 4, true);
+        }
+        int f = Check.parse(x, "[(b+a);c]p");
+        Check.due("program", x.runStep(f, 5, 4, 0, 0), 0);
+        Check.due("world", x.runStep(f, 5, 4, 0, 1), 0);
+        Check.due("the second program", x.runStep(f, 5, 4, 1, 0), 2);
+        int g = Check.parse(x, "[a]p");
+        Check.due("a step into world 0", x.runStep(g, 5, 0, 0, 1), 0);
+        Check.due("its program", x.runStep(g, 5, 0, 0, 0), 0);
+    }
+
     // ---- 24
 
     private static long sequences(int[] i) {

@@ -71,6 +71,25 @@ public final class EdgeTruthTest {
         Check.due("[a*]!p", x.extension(Check.parse(x, "[a*]!p")), 0);
     }
 
+    /** World 0 and world 5 as the beginning, the middle and the end of runs of every kind of program. */
+    static void promise19TheFirstAndTheLastWorldInEveryProgram() {
+        for (int end = 0; end <= 5; end += 5) {
+            DynamicLogicProver x = new DynamicLogicProver();
+            x.setWorlds(6);
+            x.setTransition(0, 2, end, true);
+            x.setTransition(1, end, 3, true);
+            x.setLetter(end, 0, true);
+            x.setLetter(3, 1, true);
+            Check.due("into it", x.extension(Check.parse(x, "<a>p")), 4);
+            Check.due("out of it", x.extension(Check.parse(x, "<b>q")), 1 << end);
+            Check.due("through it", x.extension(Check.parse(x, "<a;b>q")), 4);
+            Check.due("through it in an iteration", x.extension(Check.parse(x, "<(a+b)*>q")), 1 << end | 4 | 8);
+            Check.due("a choice in it", x.extension(Check.parse(x, "<c+b>q")), 1 << end);
+            Check.due("a test in it", x.extension(Check.parse(x, "<?p>1")), 1 << end);
+            Check.due("a box in it", x.extension(Check.parse(x, "[b]!q")), 63 & ~(1 << end));
+        }
+    }
+
     static void promise19AFormulaOfSize80() {
         DynamicLogicProver x = new DynamicLogicProver();
         x.setWorlds(2);
