@@ -97,7 +97,7 @@ public final class LanguageTest {
         Check.due("rule 7: bare indices", count("[\\w)\\]]\\[(?!\\])") - count("new (int|long)\\["), 4);
         Check.due("rule 7: the tests of indices", count("row != null && index >= 0 && index < row\\.length"), 4);
         Check.due("rule 7: divisors", count("[/%] *(?!64\\b|MAX_WORLDS\\b)\\w"), 0);
-        Check.due("rule 12: arrays made outside of fields", count("(?m)^ ++(?!private final )[^\\n]*new (int|long)\\["), 0);
+        Check.due("rule 12: arrays and objects made outside of fields", count("(?m)^ ++(?!private final )[^\\n]*\\bnew \\w"), 0);
     }
 
     /** Rule 11: at most seven parameters and some sixty lines. */
